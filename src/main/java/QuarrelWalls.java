@@ -8,16 +8,16 @@ public final class QuarrelWalls {
 
     public static final int BAD = -1, NOT = -2, FULL = -3, NONE = -4, NULL = -11, CAST = -12, INDEX = -13, SIZE = -14;
 
-    private static final int MOST_GARDENS = 6, MOST_WALLS = 5, MOST_COURSES = 19, MOST_NOISE = 9, LAST_WEEK = 9999;
+    private static final int MOST_GARDENS = 6, MOST_WALLS = 5, MOST_COURSES = 19, MOST_NOISE = 9;
     private static final int GREATEST_QUARREL = 99, QUARREL_OF_A_COURSE = 5, QUARREL_OF_A_FALL = 5;
-    private static final int LEAST_YEAR = 2, MOST_YEAR = 52, MOST_EASE = 9;
+    private static final int LEAST_YEAR = 2, MOST_YEAR = 52, MOST_EASE = 9, MOST_WEEKS = 52, LAST_WEEK = 9999;
     private static final int SULKER = 1, MILD = 2, DEAF = 3, MASON = 4;
     private static final int WEEKS_BETWEEN_APOLOGIES = 3, MOST_GIFT = 400, MOST_GIFT_ROOT = 20, MOST_GOSSIP = 9;
     private static final int COURSES_THAT_HIDE = 5, COURSES_THAT_MAY_FALL = 12;
     private static final int KNOWN_STEPS = 8, MOST_LETTERS = 60, FIRST_FAULT = -20;
     private static final int FORETOLD_WEEKS = 104, FORETOLD_MICHAELMASES = 20, SEEN_MICHAELMASES = 6;
     private static final int MOST_SHEETS = 4, MOST_ITEMS = 24, BYTES = 0, SHORTS = 1, INTS = 2, LONGS = 3;
-    private static final int MILLION = 1000000;
+    private static final int MILLION = 1000000, LOWEST_31_BITS = 0x7fffffff;
     private static final String KIND_LETTERS = "psmda";
 
     private final Street street;
@@ -140,11 +140,9 @@ public final class QuarrelWalls {
     // ---- what is done
 
     public int weeks(int n) {
-        if (!within(n, 1, MOST_YEAR)) {
-            return BAD;
-        }
-        if (street.now.week + n > LAST_WEEK) {
-            return FULL;
+        int refusal = refusalOfWeeks(n);
+        if (refusal != 0) {
+            return refusal;
         }
         for (int k = 0; k < n; k++) {
             street.remember();
@@ -205,11 +203,9 @@ public final class QuarrelWalls {
     }
 
     public int drift(int n) {
-        if (!within(n, 1, MOST_YEAR)) {
-            return BAD;
-        }
-        if (street.now.week + n > LAST_WEEK) {
-            return FULL;
+        int refusal = refusalOfWeeks(n);
+        if (refusal != 0) {
+            return refusal;
         }
         int fell = 0;
         for (int k = 0; k < n; k++) {
@@ -276,7 +272,7 @@ public final class QuarrelWalls {
     }
 
     public int holds(int n) {
-        if (!within(n, 0, MOST_YEAR)) {
+        if (!within(n, 0, MOST_WEEKS)) {
             return BAD;
         }
         return outlook.chanceToStand(n);
@@ -375,7 +371,15 @@ public final class QuarrelWalls {
         return n;
     }
 
-    // ---- what all classes use
+    // ---- what several calls use
+
+    /** Why n WEEKS can't pass; 0: they can. */
+    private int refusalOfWeeks(int n) {
+        if (!within(n, 1, MOST_WEEKS)) {
+            return BAD;
+        }
+        return street.now.week + n > LAST_WEEK ? FULL : 0;
+    }
 
     private static boolean within(int v, int low, int high) {
         return v >= low && v <= high;
@@ -630,7 +634,7 @@ public final class QuarrelWalls {
         }
 
         int drawNext() {
-            now.draw = (now.draw * 1103515245 + 12345) & Integer.MAX_VALUE;
+            now.draw = (now.draw * 1103515245 + 12345) & LOWEST_31_BITS;
             return now.draw;
         }
 
@@ -863,21 +867,14 @@ public final class QuarrelWalls {
         int parse() {
             at = 0;
             gardens = 0;
-            if (!readYear() || !readSign(';')) {
-                return FIRST_FAULT - at;
-            }
-            while (gardens < MOST_GARDENS) {
-                if (!readOwner()) {
-                    return FIRST_FAULT - at;
-                }
+            boolean goesOn = readYear() && readSign(';');
+            while (goesOn && gardens < MOST_GARDENS && readOwner()) {
                 gardens++;
                 if (atEnd()) {
                     return gardens;
                 }
-                // the last one that there may be has no next one: nothing can stand behind it
-                if (gardens == MOST_GARDENS || !readQuarrel() || !readSign(',')) {
-                    return FIRST_FAULT - at;
-                }
+                // the sixth is the last one whatever comes: nothing can stand behind it
+                goesOn = gardens < MOST_GARDENS && readQuarrel() && readSign(',');
             }
             return FIRST_FAULT - at;
         }
@@ -914,11 +911,11 @@ public final class QuarrelWalls {
                 number = 10 * number + letters[at] - '0';
                 at++;
             }
-            year = number;
             if (!within(number, LEAST_YEAR, MOST_YEAR)) {
                 at = first;
                 return false;
             }
+            year = number;
             return true;
         }
 

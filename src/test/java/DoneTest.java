@@ -188,6 +188,12 @@ public final class DoneTest {
         due.due("99 at most", x.wall(2, 1), 99);
         due.due("falls(0) again", x.falls(0), -2);
         due.due("falls(1)", x.falls(1), -2);
+        x.gossip(1, 9);
+        x.weeks(2);
+        due.due("one course", x.falls(1), 1);
+        for (int k = 0; k < 4; k++) {
+            x.undo();
+        }
         due.due("falls(3)", x.falls(3), -1);
         for (int wrong : WRONG) {
             due.due("falls(" + wrong + ")", x.falls(wrong), -1);
@@ -250,6 +256,14 @@ public final class DoneTest {
         x.drift(1);
         due.due("11 are not", x.seed(1), 1);
 
+        for (int seed = 0; seed < 2_000_000_000; seed += 7_654_321) {
+            QuarrelWalls y = Due.of("2;p099,p0");
+            y.weeks(2);
+            y.rule(0, 52);
+            y.seed(seed);
+            long draw = (seed * 1103515245L + 12345L) % 2147483648L;
+            due.due("by seed " + seed, y.drift(1), draw / 65536 % 100 < 19 ? 1 : 0);
+        }
         // the third draw from 1 on is 13: less than 14, not less than 13
         for (int c = 14; c >= 13; c--) {
             QuarrelWalls y = Due.of("2;p099,p0");

@@ -208,7 +208,8 @@ public final class ForetoldTest {
 
     private static void images() {
         QuarrelWalls x = Due.of(STREET);
-        x.weeks(6);
+        // more steps than are known: what is undone must come in its order whatever is done in between
+        x.weeks(11);
         x.sorry(2);
         x.gift(0, 0, 9);
         x.seed(99);
@@ -239,6 +240,14 @@ public final class ForetoldTest {
         due.due("the draw as ahead of it", x.seed(1), 1);
         due.due("restore() a third time", x.restore(), 1);
         due.holds("and what is undone in between is known again", was.equals(Due.shown(x)));
+        x.undo();
+        x.undo();
+        for (int week = 11; week > 5; week--) {
+            due.due("week", x.count(1), week);
+            x.undo();
+        }
+        due.due("the oldest that is known", x.count(1), 5);
+        x.restore();
         x.weeks(1);
         String then = Due.shown(x);
         x.image();

@@ -106,6 +106,7 @@ public final class GardensTest {
             x.lovers(0);
         }
         due.due("5 courses hide", x.of(1, 5), 12);
+        due.due("from either side", x.of(0, 5), 0);
         x.lovers(0);
         due.due("4 do not", x.of(1, 5), 13);
         due.due("from the other side", x.of(0, 5), 14);

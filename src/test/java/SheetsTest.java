@@ -57,9 +57,13 @@ public final class SheetsTest {
 
         QuarrelWalls y = still();
         y.sheet(0, 2, 5);
-        y.item(0, 2, 4, 3);
+        for (int i = 0; i < 5; i++) {
+            y.item(0, 2, i, 3);
+        }
         y.sheet(0, 2, 5);
-        due.holds("a new row is empty", shows(y, 0, 2, 4, 0));
+        for (int i = 0; i < 5; i++) {
+            due.holds("a new row is empty, item " + i, shows(y, 0, 2, i, 0));
+        }
     }
 
     private static void items() {
@@ -181,6 +185,10 @@ public final class SheetsTest {
         QuarrelWalls y = still();
         seen(y, 0, 5, 20, 4, 4, 4, 4, 4, 4);
         due.holds("nothing changed", was.equals(Due.shown(x)));
+        QuarrelWalls z = still();
+        z.rule(1, 2);
+        seen(z, 0, 1, 99, 19);
+        seen(z, 0, 9, 0, 0);
         row(y, 1, 2, 3, 4, 4, 4, 9);
         due.due("from item 1 on", y.seen(0, 1, 2, 1, 2, 0), 5);
         due.due("from item 0 on", y.seen(0, 1, 2, 0, 2, 0), 0);

@@ -31,6 +31,10 @@ public final class StreetTextTest {
             x.type(32);
         }
         due.due("60 blanks", x.street(), -80);
+        due.due("a number at the very end", Due.street(x, " ".repeat(59) + "5"), -80);
+        due.due("a street to the very end", Due.street(x, " ".repeat(56) + "5;p3"), 1);
+        Due.street(x, "52;p345,s6");
+        due.due("letters of an earlier tape are gone", Due.street(x, "5"), -21);
     }
 
     private static void fault(String text, int place) {
@@ -152,5 +156,13 @@ public final class StreetTextTest {
         due.due("the draw stays", x.seed(1), 77);
         due.due("nothing to be undone", x.undo(), -4);
         due.due("apology may be made", x.sorry(0), 8);
+        Due.street(x, "2;p799,p788,p777,p766,p755,p7");
+        x.weeks(2);
+        due.due("a shorter street", Due.street(x, "2;p710,p7"), 2);
+        due.due("courses", x.count(4), 0);
+        due.due("quarrels", x.count(5), 10);
+        due.due("paid", x.count(6), 0);
+        due.due("apologies", x.count(8), 1);
+        due.due("sees", x.of(0, 5), 2);
     }
 }
