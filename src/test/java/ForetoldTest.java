@@ -44,22 +44,22 @@ public final class ForetoldTest {
         due.due("no such wall", none.ahead(0, 1, 1), -1);
     }
 
+    private static QuarrelWalls changed(int year) {
+        QuarrelWalls x = Due.of(year + ";p730,s460,m915,d245,a088,p3");
+        x.weeks(3);
+        x.falls(0);
+        x.rule(1, year % 10);
+        return x;
+    }
+
     private static void aheadIsWhatComes() {
         for (int year = 2; year <= 52; year += 5) {
-            QuarrelWalls x = Due.of(year + ";p730,s460,m915,d245,a088,p3");
-            x.weeks(3);
-            x.falls(0);
-            x.rule(1, year % 10);
-            int[] told = new int[105];
-            int[] quarrel = new int[105];
+            QuarrelWalls told = changed(year);
+            QuarrelWalls lived = changed(year);
             for (int n = 0; n <= 104; n++) {
-                told[n] = x.ahead(-4, n, 0);
-                quarrel[n] = x.ahead(3, n, 1);
-            }
-            for (int n = 0; n <= 104; n++) {
-                due.due("courses in " + n + ", year " + year, x.count(4), told[n]);
-                due.due("quarrel in " + n + ", year " + year, x.wall(3, 1), quarrel[n]);
-                x.weeks(1);
+                due.due("courses in " + n + ", year " + year, lived.count(4), told.ahead(-4, n, 0));
+                due.due("quarrel in " + n + ", year " + year, lived.wall(3, 1), told.ahead(3, n, 1));
+                lived.weeks(1);
             }
         }
     }

@@ -6,6 +6,7 @@ import java.util.Random;
 public final class ModelTest {
     private static final int RUNS = 1500;
     private static final int CALLS = 512;
+    private static final int MOST_CALLS_AT_ONCE = 12;
     private static final int[] EDGES = {Integer.MIN_VALUE, -5, -4, -2, -1, 0, 1, 60, 101, 1000, Integer.MAX_VALUE};
 
     private final Random chance;
@@ -23,34 +24,44 @@ public final class ModelTest {
     public static void main(String[] args) {
         Due due = new Due();
         for (int run = 0; run < RUNS && due.wrong() == 0; run++) {
-            new ModelTest(run, due).run(run % 3 != 0);
+            new ModelTest(run, due).run(run % 3 != 0, run % 10 == 0);
         }
         due.end();
     }
 
-    private void run(boolean street) {
-        int done = 0;
+    /** late: first of all the WEEK goes to near 9999, the last one. */
+    private void run(boolean street, boolean late) {
         if (street) {
             text = validText();
         }
-        while (done < CALLS && due.wrong() == 0) {
-            if (text.isEmpty()) {
-                one(chance.nextInt(32));
-                done++;
+        while (calls.size() < CALLS - MOST_CALLS_AT_ONCE && due.wrong() == 0) {
+            if (!text.isEmpty()) {
+                typeOn();
+            } else if (late && m.count(1) < 9999 - 60) {
+                int n = 50 + chance.nextInt(3);
+                due("weeks(" + n + ")", x.weeks(n), m.weeks(n));
             } else {
-                int letter = text.charAt(0);
-                text = text.substring(1);
-                due("type(" + letter + ")", x.type(letter), m.type(letter));
-                done++;
-                if (text.isEmpty()) {
-                    due("street()", x.street(), m.street());
-                    done++;
-                }
+                one(late ? withoutAStreet() : chance.nextInt(32));
             }
         }
         if (due.wrong() > 0) {
             System.out.println(String.join("\n", calls));
         }
+    }
+
+    private void typeOn() {
+        int letter = text.charAt(0);
+        text = text.substring(1);
+        due("type(" + letter + ")", x.type(letter), m.type(letter));
+        if (text.isEmpty()) {
+            due("street()", x.street(), m.street());
+        }
+    }
+
+    /** A STREET would bring the WEEK back to 0. */
+    private int withoutAStreet() {
+        int call = chance.nextInt(31);
+        return call == 6 ? 31 : call;
     }
 
     private void due(String call, int got, int want) {
@@ -77,11 +88,11 @@ public final class ModelTest {
     }
 
     private int aWall() {
-        return near(0, Math.max(0, x.count(0) - 2));
+        return near(0, Math.max(0, m.count(0) - 2));
     }
 
     private int aGarden() {
-        return near(0, Math.max(0, x.count(0) - 1));
+        return near(0, Math.max(0, m.count(0) - 1));
     }
 
     private String validText() {
@@ -253,9 +264,9 @@ public final class ModelTest {
         int w = aWall();
         int n = near(1, 6);
         int i = near(0, 18);
-        int toGo = x.count(7);
+        int toGo = m.count(7);
         for (int k = 0; k < n && k < 6; k++) {
-            int weeks = toGo + k * x.count(2);
+            int weeks = toGo + k * m.count(2);
             int courses = m.ahead(w, weeks, 0) + (chance.nextInt(12) == 0 ? 1 : 0);
             due("item(" + s + ", " + lane + ", " + (i + k) + ", " + courses + ")", x.item(s, lane, i + k, courses), m.item(s, lane, i + k, courses));
         }

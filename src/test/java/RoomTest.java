@@ -9,12 +9,17 @@ public final class RoomTest {
     public static void main(String[] args) {
         // once for what the machine itself makes when it meets a class for the first time
         use(Due.of("2;p730,s460,m915,d245,a088,p3"));
+        QuarrelWalls[] all = new QuarrelWalls[100];
         long before = made();
-        QuarrelWalls x = new QuarrelWalls();
-        due.holds("an object is small", made() - before < 16_000);
-        type(x);
+        for (int k = 0; k < all.length; k++) {
+            all[k] = new QuarrelWalls();
+        }
+        due.holds("an object is small", made() - before < 16_000 * all.length);
+        for (QuarrelWalls x : all) {
+            type(x);
+        }
         before = made();
-        for (int k = 0; k < 100; k++) {
+        for (QuarrelWalls x : all) {
             use(x);
         }
         due.holds("no call makes anything", made() - before < 1_000);
