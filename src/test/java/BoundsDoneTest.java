@@ -499,26 +499,36 @@ public final class BoundsDoneTest {
 
     /** "the latest WEEK (with what FELL behind it in a DRIFT) ... is as it had not been". */
     private static void undoneOneByOne() {
-        QuarrelWalls x = high("19", "19", "19", "19", "19");
-        x.seed(1);
-        String[] was = new String[9];
-        for (int k = 0; k < 9; k++) {
-            was[k] = butPast(Due.shown(x));
-            x.drift(1);
+        due.holds("some fell", drifted(9, false).count(4) < 95);
+        for (int back = 1; back <= 8; back++) {
+            String was = butPast(Due.shown(drifted(9 - back, false)));
+            for (int atOnce = 0; atOnce < 2; atOnce++) {
+                QuarrelWalls x = drifted(9, atOnce == 1);
+                for (int k = 1; k <= back; k++) {
+                    due.due("undo()", x.undo(), 8 - k);
+                }
+                due.holds("as " + back + " WEEKS ago", was.equals(butPast(Due.shown(x))));
+            }
         }
-        due.holds("some fell", x.count(4) < 95);
-        for (int k = 8; k >= 1; k--) {
-            due.due("undo()", x.undo(), k - 1);
-            due.holds("as ahead of WEEK " + k, was[k].equals(butPast(Due.shown(x))));
+        QuarrelWalls x = drifted(9, true);
+        for (int k = 0; k < 8; k++) {
+            x.undo();
         }
         due.due("the first is lost", x.undo(), -4);
-        QuarrelWalls y = high("19", "19", "19", "19", "19");
-        y.seed(1);
-        y.drift(9);
-        for (int k = 8; k >= 1; k--) {
-            y.undo();
-            due.holds("at once, as ahead of WEEK " + k, was[k].equals(butPast(Due.shown(y))));
+        due.due("and its WEEK stays", x.count(1), 3);
+    }
+
+    /** Five WALLS of 19 COURSES behind a DRIFT of so many WEEKS, in one call or in as many. */
+    private static QuarrelWalls drifted(int weeks, boolean atOnce) {
+        QuarrelWalls x = high("19", "19", "19", "19", "19");
+        x.seed(1);
+        if (atOnce) {
+            x.drift(weeks);
         }
+        for (int k = 0; k < weeks && !atOnce; k++) {
+            x.drift(1);
+        }
+        return x;
     }
 
     private static String butPast(String shown) {

@@ -97,6 +97,19 @@ public final class BoundsForetoldTest {
                 due.due("at MICHAELMAS", x.ahead(0, toGo, 0), gone == 2 && year == 2 ? 11 : 10);
             }
         }
+        // from within a YEAR of 9 WEEKS: 4 to go, then 9, 9, ..
+        QuarrelWalls within = Due.of("9;p099,p0");
+        within.weeks(5);
+        within.gift(0, 0, 400);
+        within.gift(0, 0, 400);
+        within.gift(0, 0, 400);
+        within.gift(0, 0, 100);
+        within.gift(0, 0, 36);
+        due.due("QUARREL 18 now", within.wall(0, 1), 18);
+        int[][] courses = {{3, 0}, {4, 2}, {12, 2}, {13, 1}, {21, 1}, {22, 0}, {104, 0}};
+        for (int[] row : courses) {
+            due.due("from within a YEAR, COURSES behind " + row[0], within.ahead(0, row[0], 0), row[1]);
+        }
         // what is foretold for 104 WEEKS is what comes
         for (int year = 2; year <= 52; year += 10) {
             QuarrelWalls told = Due.of(year + ";s730,m460,a9");
@@ -418,6 +431,17 @@ public final class BoundsForetoldTest {
         x.gift(4, 1, 400);
         due.due("restore()", x.restore(), 1);
         due.holds("all is as it was then", Whole.of(x).equals(Whole.of(y)));
+
+        QuarrelWalls other = Whole.rich();
+        QuarrelWalls same = Whole.rich();
+        other.street();
+        same.street();
+        other.image();
+        same.image();
+        due.due("a STREET of other KINDS", Due.street(other, "52;a911,d822,s733,m644,p555,a4"), 6);
+        other.weeks(52);
+        due.due("restore()", other.restore(), 1);
+        due.holds("all is as it was ahead of the STREET", Whole.of(other).equals(Whole.of(same)));
 
         QuarrelWalls z = Whole.rich();
         z.image();

@@ -19,6 +19,7 @@ public final class BoundsSheetsTest {
         oneToSixMichaelmases();
         quarrelsNoughtToNinetyNine();
         theNextMichaelmases();
+        fromWithinAYear();
         aRowThatCannotBe();
         filmIsAsTold();
         filmFindsInThisOrder();
@@ -152,6 +153,28 @@ public final class BoundsSheetsTest {
             y.gift(0, 0, 400);
             due.due("whatever the QUARREL is", y.seen(0, 0, 1, 24 - n, n, 0), many);
         }
+    }
+
+    /** "behind each of the next n MICHAELMASES": the first is as far as it is now, then a YEAR each. */
+    private static void fromWithinAYear() {
+        QuarrelWalls x = Due.of("9;p000,p0");
+        x.weeks(5);
+        // EASE 1: 4 less till the first, 9 less till each one more
+        row(x, 0, 2, 2, 0, 0);
+        due.due("14 .. 18", x.seen(0, 0, 2, 0, 1, 0), 5);
+        due.due("from 14 on", x.seen(0, 0, 2, 0, 1, 1), 14);
+        due.due("14 .. 17", x.seen(0, 0, 2, 0, 2, 0), 4);
+        due.due("from 14 on", x.seen(0, 0, 2, 0, 2, 1), 14);
+        row(x, 0, 2, 2, 1, 0);
+        due.due("18", x.seen(0, 0, 2, 0, 3, 0), 1);
+        due.due("it is 18", x.seen(0, 0, 2, 0, 3, 1), 18);
+        row(x, 0, 2, 2, 2);
+        due.due("none", x.seen(0, 0, 2, 0, 2, 0), 0);
+        x.weeks(3);
+        row(x, 0, 2, 0);
+        due.due("1 to go: 0 .. 5", x.seen(0, 0, 2, 0, 1, 0), 6);
+        x.weeks(1);
+        due.due("9 to go: 0 .. 13", x.seen(0, 0, 2, 0, 1, 0), 14);
     }
 
     /** A row may tell what no WALL can be: below 0, above 19, beyond an int. */
@@ -349,6 +372,12 @@ public final class BoundsSheetsTest {
         ROWS.refuses("NULL, the second", (x, v) -> x.copy(0, 0, v, 0, 1), 2, -11);
         ROWS.refuses("NULL, both", (x, v) -> x.copy(v, 0, v, 0, 1), 2, -11);
         ROWS.refuses("NULL ahead of INDEX", (x, v) -> x.copy(0, v, 2, 0, 1), -1, -11);
+        ROWS.refuses("NULL ahead of CAST, the second", (x, v) -> x.copy(1, 0, v, 0, 1), 2, -11);
+        ROWS.refuses("NULL ahead of CAST, the first", (x, v) -> x.copy(v, 0, 3, 0, 1), 2, -11);
+        QuarrelWalls dropped = still();
+        dropped.drop(1);
+        due.due("NULL ahead of CAST, dropped", dropped.copy(0, 0, 1, 0, 1), -11);
+        due.due("NULL ahead of CAST, dropped", dropped.copy(1, 0, 0, 0, 1), -11);
         ROWS.refuses("NULL for no items", (x, v) -> x.copy(0, 0, 2, 0, v), 0, -11);
         ROWS.refuses("CAST", (x, v) -> x.copy(0, 0, v, 0, 1), 1, -12);
         ROWS.refuses("CAST for no items", (x, v) -> x.copy(0, 0, 1, 0, v), 0, -12);

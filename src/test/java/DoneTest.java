@@ -277,11 +277,23 @@ public final class DoneTest {
     }
 
     private static void undo() {
+        QuarrelWalls x = steps(9);
+        for (int k = 8; k >= 1; k--) {
+            due.due("undo " + k, x.undo(), k - 1);
+            QuarrelWalls y = steps(9);
+            for (int back = 9; back > k; back--) {
+                y.undo();
+            }
+            due.holds("as ahead of " + k, sameButPast(Due.shown(steps(k)), Due.shown(y)));
+        }
+        due.due("older ones are lost", x.undo(), -4);
+        due.holds("and it stays", sameButPast(Due.shown(steps(1)), Due.shown(x)));
+    }
+
+    private static QuarrelWalls steps(int n) {
         QuarrelWalls x = Due.of("2;p730,s460,m915,d245,a088,p3");
         x.weeks(8);
-        String[] was = new String[9];
-        for (int k = 0; k < 9; k++) {
-            was[k] = Due.shown(x);
+        for (int k = 0; k < n; k++) {
             switch (k) {
                 case 0 -> x.sorry(1);
                 case 1 -> x.gift(2, 1, 50);
@@ -294,12 +306,7 @@ public final class DoneTest {
                 default -> x.gift(0, 0, 1);
             }
         }
-        for (int k = 8; k >= 1; k--) {
-            due.due("undo " + k, x.undo(), k - 1);
-            due.holds("as ahead of " + k, sameButPast(was[k], Due.shown(x)));
-        }
-        due.due("older ones are lost", x.undo(), -4);
-        due.holds("and it stays", sameButPast(was[1], Due.shown(x)));
+        return x;
     }
 
     private static boolean sameButPast(String a, String b) {

@@ -48,12 +48,13 @@ final class Due {
         for (int what = 0; what <= 9; what++) {
             all.append("count ").append(what).append('=').append(x.count(what)).append(' ');
         }
-        for (int g = 0; g < x.count(0); g++) {
+        int gardens = x.count(0);
+        for (int g = 0; g < gardens; g++) {
             for (int what = 0; what <= 5; what++) {
                 all.append("of ").append(g).append(' ').append(what).append('=').append(x.of(g, what)).append(' ');
             }
         }
-        for (int w = 0; w < x.count(0) - 1; w++) {
+        for (int w = 0; w < gardens - 1; w++) {
             for (int what = 0; what <= 3; what++) {
                 all.append("wall ").append(w).append(' ').append(what).append('=').append(x.wall(w, what)).append(' ');
             }

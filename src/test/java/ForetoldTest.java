@@ -207,7 +207,7 @@ public final class ForetoldTest {
     }
 
     private static void images() {
-        QuarrelWalls x = Due.of(STREET);
+        QuarrelWalls x = Due.of("6;p730,s460,m915,d2");
         // more steps than are known: what is undone must come in its order whatever is done in between
         x.weeks(11);
         x.sorry(2);
