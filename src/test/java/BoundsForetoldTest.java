@@ -185,6 +185,12 @@ public final class BoundsForetoldTest {
         y.weeks(2);
         y.lovers(0);
         due.due("a COURSE that LOVERS took comes back", y.settles(), 1);
+        QuarrelWalls z = still("2;p000,p005,p0");
+        z.weeks(2);
+        z.gossip(0, 5);
+        z.gift(1, 0, 25);
+        due.due("as many COURSES in all", z.ahead(-4, 2, 0), z.count(4));
+        due.due("one rises as another sinks: both are changed", z.settles(), 1);
     }
 
     /** "LEAST GIFT over a WALL (0 .. 400, now)", "h COURSES (0 .. 19)"; "LEAST GIFT; NONE. BAD." */
