@@ -7,7 +7,10 @@ import java.nio.file.Path;
 import java.util.regex.Matcher;
 import java.util.regex.Pattern;
 
-/** README.md: its calls answer what it shows, and it names every call and every test. Run from the project's root. */
+/**
+ * README.md: its calls answer what it shows, and it names every call and every test; SENTENCES.md: the tests that it
+ * names are there. Run from the project's root.
+ */
 public final class ReadmeTest {
     private static final Due due = new Due();
     private static final Pattern TEXT = Pattern.compile("for \\(char letter : \"([^\"]*)\"\\.toCharArray\\(\\)\\) \\{");
@@ -23,6 +26,7 @@ public final class ReadmeTest {
         answers(page);
         namesEveryCall(page);
         namesEveryTest(page);
+        sentences(Files.readString(Path.of("SENTENCES.md")));
         due.end();
     }
 
@@ -124,6 +128,21 @@ public final class ReadmeTest {
         Matcher row = Pattern.compile("(?m)^\\| `(\\w+Test)` \\|").matcher(page);
         while (row.find()) {
             due.holds(row.group(1) + " is there", Files.exists(Path.of("src/test/java", row.group(1) + ".java")));
+        }
+    }
+
+    private static void sentences(String page) throws IOException {
+        Matcher test = Pattern.compile("`(\\w+Test)\\.(\\w+)`").matcher(page);
+        int found = 0;
+        while (test.find()) {
+            found++;
+            Path file = Path.of("src/test/java", test.group(1) + ".java");
+            boolean there = Files.exists(file) && Files.readString(file).contains("void " + test.group(2) + "(");
+            due.holds(test.group() + " is there", there);
+        }
+        due.holds("tests are named", found > 32);
+        for (int promise = 1; promise <= 32; promise++) {
+            due.holds("promise " + promise + " has its tests", page.contains("\n| " + promise + " "));
         }
     }
 }
